@@ -1,0 +1,47 @@
+import java.lang.reflect.Constructor;
+import java.lang.reflect.Field;
+import java.lang.reflect.Method;
+import java.lang.reflect.Modifier;
+import java.util.Arrays;
+import java.util.TreeSet;
+
+/** The class shows the document's face and nothing else. */
+public final class FaceTest {
+    private static final String[] FACE = {
+        "public NoteMix()",
+        "public void NoteMix.load(int,int,int) throws java.lang.IllegalArgumentException",
+        "public int NoteMix.best(int) throws java.lang.IllegalArgumentException,java.util.NoSuchElementException",
+        "public int NoteMix.part(int,int) throws java.lang.IllegalArgumentException,java.util.NoSuchElementException",
+        "public int NoteMix.ways(int) throws java.lang.IllegalArgumentException",
+        "public int NoteMix.pay(int,int) throws java.lang.IllegalArgumentException,java.util.NoSuchElementException",
+        "public int NoteMix.next(int) throws java.lang.IllegalArgumentException",
+        "public int NoteMix.reach()",
+        "public int NoteMix.cassette(int,boolean) throws java.lang.IllegalArgumentException",
+        "public int NoteMix.value()",
+    };
+
+    private FaceTest() {
+    }
+
+    public static void main(String[] args) {
+        TreeSet<String> seen = new TreeSet<>();
+        for (Constructor<?> made : NoteMix.class.getDeclaredConstructors()) {
+            add(seen, made.getModifiers(), made.toString());
+        }
+        for (Method method : NoteMix.class.getDeclaredMethods()) {
+            add(seen, method.getModifiers(), method.toString());
+        }
+        for (Field field : NoteMix.class.getDeclaredFields()) {
+            add(seen, field.getModifiers(), field.toString());
+        }
+        Check.same("the face", new TreeSet<>(Arrays.asList(FACE)).toString(), seen.toString());
+        Check.same("the class", "public final", Modifier.toString(NoteMix.class.getModifiers()));
+        Check.finish();
+    }
+
+    private static void add(TreeSet<String> seen, int modifiers, String text) {
+        if (!Modifier.isPrivate(modifiers)) {
+            seen.add(text);
+        }
+    }
+}
