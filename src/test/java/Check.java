@@ -5,7 +5,11 @@ final class Check {
     static final String ILLEGAL = "throws IllegalArgumentException";
     static final String NONE = "throws NoSuchElementException";
 
+    private static final int[] SHOWN_AMOUNTS = {
+        0, 1, 5, 10, 35, 40, 41, 85, 100, 155, 500, 999, 1500, 1700, 1705, 1999, 2000};
+
     private static int wrong = 0;
+    private static String sentence = "";
 
     private Check() {
     }
@@ -31,6 +35,11 @@ final class Check {
         return e.getClass() == kind ? text : "throws " + e;
     }
 
+    /** Names the sentence of the document that the answers from here on belong to. */
+    static void sentence(String words) {
+        sentence = "\"" + words + "\": ";
+    }
+
     static void due(String what, int want, Call call) {
         due(what, Integer.toString(want), call);
     }
@@ -42,7 +51,7 @@ final class Check {
     static void same(String what, String want, String got) {
         if (!want.equals(got)) {
             wrong++;
-            System.out.println(what + " answered " + got + ", due is " + want);
+            System.out.println(sentence + what + " answered " + got + ", due is " + want);
         }
     }
 
@@ -66,6 +75,20 @@ final class Check {
         return x;
     }
 
+    /** A box in which cassette c alone has notes. */
+    static NoteMix only(int c, int worth, int notes) {
+        NoteMix x = box(1, 0, 1, 0, 1, 0, 1, 0);
+        loads(x, c, worth, notes);
+        return x;
+    }
+
+    /** A box in which cassettes a and b alone have notes, of one worth. */
+    static NoteMix pair(int a, int notesOfA, int b, int notesOfB, int worth) {
+        NoteMix x = only(a, worth, notesOfA);
+        loads(x, b, worth, notesOfB);
+        return x;
+    }
+
     /** The cassettes from 0 to 3 as "worth x notes", and the value. */
     static String stateOf(NoteMix x) {
         StringBuilder text = new StringBuilder();
@@ -79,6 +102,20 @@ final class Check {
         same(what + ": state", want, stateOf(x));
     }
 
+    /** All that calls show of a box, at 17 amounts. It takes 129 of the 512 calls. */
+    static String imageOf(NoteMix x) {
+        StringBuilder text = new StringBuilder(stateOf(x)).append(" reach ").append(answerOf(x::reach));
+        for (int v : SHOWN_AMOUNTS) {
+            text.append("; ").append(v).append(": ").append(answerOf(() -> x.best(v)));
+            for (int c = 0; c < 4; c++) {
+                int cassette = c;
+                text.append(' ').append(answerOf(() -> x.part(v, cassette)));
+            }
+            text.append(' ').append(answerOf(() -> x.ways(v))).append(' ').append(answerOf(() -> x.next(v)));
+        }
+        return text.toString();
+    }
+
     /** The best mix from cassette 0 to 3. */
     static void mix(String what, NoteMix x, int v, int... parts) {
         int size = 0;
@@ -88,6 +125,18 @@ final class Check {
             size += parts[c];
         }
         due(what + ": best(" + v + ")", size, () -> x.best(v));
+    }
+
+    /** Every call that asks for a mix of v answers that there is none. */
+    static void noMix(String what, NoteMix x, int v) {
+        due(what + ": best(" + v + ")", NONE, () -> x.best(v));
+        for (int c = 0; c < 4; c++) {
+            int cassette = c;
+            due(what + ": part(" + v + ", " + c + ")", NONE, () -> x.part(v, cassette));
+        }
+        due(what + ": pay(" + v + ", 0)", NONE, () -> x.pay(v, 0));
+        due(what + ": pay(" + v + ", 40)", NONE, () -> x.pay(v, 40));
+        due(what + ": ways(" + v + ")", 0, () -> x.ways(v));
     }
 
     static void finish() {

@@ -4,7 +4,8 @@ import java.util.Random;
 /** Long runs of calls beside a slow reference that goes through all mixes as the document words them. */
 public final class ReferenceTest {
     private static final int RUNS = 60;
-    private static final int CALLS = 512;
+    // Nothing is promised after 512 calls, and the state at a run's end takes nine.
+    private static final int CALLS = 512 - 9;
     private static final int[] WORTHS = {1, 2, 3, 5, 7, 10, 20, 25, 49, 50, 51, 100, 499, 500};
     private static final int[] NOTES = {0, 1, 2, 3, 8, 15, 16, 31, 32, 39, 40, 41, 499, 500};
 
