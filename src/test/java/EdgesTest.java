@@ -15,6 +15,8 @@ public final class EdgesTest {
         loadWithWrongNumbers();
         Check.sentence("3: (0 of 0)");
         bestOfZero();
+        Check.sentence("3: IllegalArgumentException if v is not 0 to 2000");
+        bestAtTheBounds();
         Check.sentence("3: NoSuchElementException if it has no MIX");
         noMixOfTooSmall();
         noMixOfTooLarge();
@@ -22,6 +24,8 @@ public final class EdgesTest {
         noMixUntilLoaded();
         Check.sentence("4: How many of them are of CASSETTE c");
         partsMakeTheBest();
+        Check.sentence("4: IllegalArgumentException also, first, if c is not 0 to 3");
+        partAtTheBounds();
         Check.sentence("5: of 0 one, without notes");
         waysOfZero();
         Check.sentence("5: CASSETTES count, also if they have the same WORTH");
@@ -29,6 +33,8 @@ public final class EdgesTest {
         Check.sentence("5: How many MIXES of v there are");
         waysOfNoMix();
         mostWays();
+        Check.sentence("5: IllegalArgumentException as by best");
+        waysAtTheBounds();
         Check.sentence("6: no more than jam of them (0 to 40)");
         jamsInside();
         jamsOutside();
@@ -39,15 +45,21 @@ public final class EdgesTest {
         Check.sentence("6: what came out, as an amount");
         payToTheLastNote();
         payAgainAfterAJam();
+        Check.sentence("6: IllegalArgumentException also, first, if jam is not as said; else as by best");
+        payAtTheBounds();
         Check.sentence("7: from v on (v, too)");
         nextIsVItself();
         nextAfterAGap();
         Check.sentence("7: -1 if none to 2000 has");
         noNext();
+        Check.sentence("7: IllegalArgumentException as by best");
+        nextAtTheBounds();
         Check.sentence("8: How many amounts, 0 to 2000, have a MIX");
         reachOfTheEdges();
         Check.sentence("9: how many NOTES it has, or (worth) their WORTH");
         cassetteAtTheEdges();
+        Check.sentence("9: IllegalArgumentException if c is not 0 to 3");
+        cassetteAtTheBounds();
         Check.sentence("10: What all NOTES come to");
         valueAtTheEdges();
         Check.finish();
@@ -108,6 +120,19 @@ public final class EdgesTest {
         Check.due("all paid: best(0)", 0, () -> x.best(0));
     }
 
+    // Its notes come to 2001, so that nothing but the bound keeps that amount out.
+    private static NoteMix boxOf2001() {
+        return Check.box(1, 1, 500, 4, 1, 0, 1, 0);
+    }
+
+    private static void bestAtTheBounds() {
+        NoteMix x = boxOf2001();
+        Check.due("best(-1)", Check.ILLEGAL, () -> x.best(-1));
+        Check.due("best(0)", 0, () -> x.best(0));
+        Check.due("best(2000)", 4, () -> x.best(2000));
+        Check.due("best(2001)", Check.ILLEGAL, () -> x.best(2001));
+    }
+
     private static void noMixOfTooSmall() {
         NoteMix x = new NoteMix();
         Check.noMix("below the least note", x, 1);
@@ -159,6 +184,21 @@ public final class EdgesTest {
         }
     }
 
+    private static void partAtTheBounds() {
+        NoteMix x = boxOf2001();
+        Check.due("part(2000, -1)", Check.ILLEGAL, () -> x.part(2000, -1));
+        Check.due("part(2000, 0)", 0, () -> x.part(2000, 0));
+        Check.due("part(2000, 1)", 4, () -> x.part(2000, 1));
+        Check.due("part(2000, 3)", 0, () -> x.part(2000, 3));
+        Check.due("part(2000, 4)", Check.ILLEGAL, () -> x.part(2000, 4));
+        Check.due("part(-1, 1)", Check.ILLEGAL, () -> x.part(-1, 1));
+        Check.due("part(0, 1)", 0, () -> x.part(0, 1));
+        Check.due("part(2001, 1)", Check.ILLEGAL, () -> x.part(2001, 1));
+        Check.due("no mix: part(2, 3)", Check.NONE, () -> x.part(2, 3));
+        Check.due("no mix: part(2, 4)", Check.ILLEGAL, () -> x.part(2, 4));
+        Check.due("no mix: part(2, -1)", Check.ILLEGAL, () -> x.part(2, -1));
+    }
+
     private static void waysOfZero() {
         Check.due("new: ways(0)", 1, () -> new NoteMix().ways(0));
         Check.due("empty: ways(0)", 1, () -> Check.only(0, 1, 0).ways(0));
@@ -201,6 +241,14 @@ public final class EdgesTest {
         Check.due("all but forty of cassette 3: ways(40)", 12340, () -> ones.ways(40));
         NoteMix fifties = Check.box(50, 500, 50, 500, 50, 500, 50, 500);
         Check.due("forty: ways(2000)", 12341, () -> fifties.ways(2000));
+    }
+
+    private static void waysAtTheBounds() {
+        NoteMix x = boxOf2001();
+        Check.due("ways(-1)", Check.ILLEGAL, () -> x.ways(-1));
+        Check.due("ways(0)", 1, () -> x.ways(0));
+        Check.due("ways(2000)", 1, () -> x.ways(2000));
+        Check.due("ways(2001)", Check.ILLEGAL, () -> x.ways(2001));
     }
 
     private static void jamsInside() {
@@ -280,6 +328,23 @@ public final class EdgesTest {
         Check.state("what stays", "5x30 10x30 20x25 50x0 =950", x);
     }
 
+    private static void payAtTheBounds() {
+        NoteMix x = boxOf2001();
+        Check.due("pay(-1, 40)", Check.ILLEGAL, () -> x.pay(-1, 40));
+        Check.due("pay(2001, 40)", Check.ILLEGAL, () -> x.pay(2001, 40));
+        Check.due("pay(2000, -1)", Check.ILLEGAL, () -> x.pay(2000, -1));
+        Check.due("pay(2000, 41)", Check.ILLEGAL, () -> x.pay(2000, 41));
+        Check.due("no mix: pay(2, -1)", Check.ILLEGAL, () -> x.pay(2, -1));
+        Check.due("no mix: pay(2, 41)", Check.ILLEGAL, () -> x.pay(2, 41));
+        Check.due("no mix: pay(2, 0)", Check.NONE, () -> x.pay(2, 0));
+        Check.due("no mix: pay(2, 40)", Check.NONE, () -> x.pay(2, 40));
+        Check.state("refused", "1x1 500x4 1x0 1x0 =2001", x);
+        Check.due("pay(0, 40)", 0, () -> x.pay(0, 40));
+        Check.due("pay(2000, 0)", 0, () -> x.pay(2000, 0));
+        Check.due("pay(2000, 40)", 2000, () -> x.pay(2000, 40));
+        Check.state("paid", "1x1 500x0 1x0 1x0 =1", x);
+    }
+
     private static void nextIsVItself() {
         NoteMix x = new NoteMix();
         Check.due("next(0)", 0, () -> x.next(0));
@@ -309,6 +374,14 @@ public final class EdgesTest {
         Check.due("empty: next(1)", -1, () -> empty.next(1));
     }
 
+    private static void nextAtTheBounds() {
+        NoteMix x = boxOf2001();
+        Check.due("next(-1)", Check.ILLEGAL, () -> x.next(-1));
+        Check.due("next(0)", 0, () -> x.next(0));
+        Check.due("next(2000)", 2000, () -> x.next(2000));
+        Check.due("next(2001)", Check.ILLEGAL, () -> x.next(2001));
+    }
+
     private static void reachOfTheEdges() {
         Check.due("only 0", 1, () -> Check.only(0, 1, 0).reach());
         Check.due("0 and 500", 2, () -> Check.only(0, 500, 1).reach());
@@ -336,6 +409,16 @@ public final class EdgesTest {
         Check.due("pay(1500, 2)", 1000, () -> x.pay(1500, 2));
         Check.due("two fewer: cassette(1, false)", 498, () -> x.cassette(1, false));
         Check.due("the same worth: cassette(1, true)", 500, () -> x.cassette(1, true));
+    }
+
+    private static void cassetteAtTheBounds() {
+        NoteMix x = new NoteMix();
+        Check.due("cassette(-1, true)", Check.ILLEGAL, () -> x.cassette(-1, true));
+        Check.due("cassette(-1, false)", Check.ILLEGAL, () -> x.cassette(-1, false));
+        Check.due("cassette(0, true)", 5, () -> x.cassette(0, true));
+        Check.due("cassette(3, true)", 50, () -> x.cassette(3, true));
+        Check.due("cassette(4, true)", Check.ILLEGAL, () -> x.cassette(4, true));
+        Check.due("cassette(4, false)", Check.ILLEGAL, () -> x.cassette(4, false));
     }
 
     private static void valueAtTheEdges() {

@@ -41,7 +41,8 @@ public final class ReferenceTest {
             case 3 -> both(at + "pay(" + v + ", " + jam + ")", () -> x.pay(v, jam), () -> y.pay(v, jam));
             case 4 -> both(at + "next(" + v + ")", () -> x.next(v), () -> y.next(v));
             case 5 -> both(at + "reach()", x::reach, y::reach);
-            case 6 -> both(at + "cassette(" + c + ", " + worth + ")", () -> x.cassette(c, worth), () -> y.cassette(c, worth));
+            case 6 -> both(at + "cassette(" + c + ", " + worth + ")",
+                () -> x.cassette(c, worth), () -> y.cassette(c, worth));
             case 7 -> both(at + "value()", x::value, y::value);
             default -> load(at, c, random, x, y);
         }
