@@ -144,9 +144,11 @@ public final class NoteMix {
         }
     }
 
-    // No worth is below 1: the constructor and load see to that.
+    // No worth is below 1: the constructor and load see to that. Here it
+    // divides, so it is looked at here too.
     private int mostNotes(int c, int amount, int room) {
-        return Math.min(Math.min(notesIn[c], room), amount / worthOf[c]);
+        int worth = Math.max(worthOf[c], 1);
+        return Math.min(Math.min(notesIn[c], room), amount / worth);
     }
 
     // The survey counts upwards, so of equally short mixes the later one has

@@ -34,9 +34,22 @@ public final class FaceTest {
         for (Field field : NoteMix.class.getDeclaredFields()) {
             add(seen, field.getModifiers(), field.toString());
         }
+        for (Class<?> inside : NoteMix.class.getDeclaredClasses()) {
+            addInside(seen, inside);
+        }
         Check.same("the face", new TreeSet<>(Arrays.asList(FACE)).toString(), seen.toString());
         Check.same("the class", "public final", Modifier.toString(NoteMix.class.getModifiers()));
+        Check.same("extends", "java.lang.Object", NoteMix.class.getSuperclass().getName());
+        Check.same("implements", "[]", Arrays.toString(NoteMix.class.getInterfaces()));
         Check.finish();
+    }
+
+    // A class inside may be package-visible; public or protected it is a member more.
+    private static void addInside(TreeSet<String> seen, Class<?> inside) {
+        int modifiers = inside.getModifiers();
+        if (Modifier.isPublic(modifiers) || Modifier.isProtected(modifiers)) {
+            seen.add(inside.toString());
+        }
     }
 
     private static void add(TreeSet<String> seen, int modifiers, String text) {
